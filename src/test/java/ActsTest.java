@@ -54,6 +54,7 @@ public final class ActsTest {
         ran("put", game, 40, 11, 10);
         DUE.is("take", game.act(3, 1, 5), 16);
         ran("take", game, 11, 10);
+        DUE.is("must", game.act(4, 1, 1), 10 ^ 9);
         DUE.is("must", game.act(4, 1, 5), 18 ^ 9);
         ran("must", game, 60, 11, 10);
         DUE.is("end", game.act(5, 1, 5), 20);
@@ -149,9 +150,18 @@ public final class ActsTest {
         game.show(0, 0);
         game.show(1, 1);
         game.row(2, 3, 1);
+        game.row(3, 0, 1);
         game.restore();
         DUE.is("a rule still", game.holds(0), 0);
         DUE.is("nothing now", game.holds(1), -1);
+        DUE.is("a row of bytes still", game.holds(3), 100);
+        Due.rule(game, "take");
+        game.show(0, 1);
+        game.show(7, 1);
+        game.restore();
+        DUE.is("nothing in the first", game.holds(0), -1);
+        DUE.is("nothing in the last", game.holds(7), -1);
+        game.show(0, 0);
         DUE.is("a row still", game.holds(2), 103);
         DUE.is("nothing says nothing", game.says(1, 0), -3);
         Due.rule(game, "must");

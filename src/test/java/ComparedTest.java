@@ -8,7 +8,7 @@ import java.util.Random;
 
 /**
  * Runs of calls by a seed, each made on the program and on PlainGame: all answers must be alike.
- * Arguments: how many runs (60), the first seed (1).
+ * Arguments: how many runs (40), the first seed (1).
  */
 public final class ComparedTest {
     private static final int CALLS = 512;
@@ -35,7 +35,7 @@ public final class ComparedTest {
     }
 
     public static void main(String[] args) throws Exception {
-        int runs = args.length > 0 ? Integer.parseInt(args[0]) : 60;
+        int runs = args.length > 0 ? Integer.parseInt(args[0]) : 40;
         long first = args.length > 1 ? Long.parseLong(args[1]) : 1;
         int wrong = 0;
         for (long seed = first; seed < first + runs; seed++) {

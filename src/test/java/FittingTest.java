@@ -10,6 +10,7 @@ public final class FittingTest {
         noneFits();
         foundAnew();
         asking();
+        askingOfSteps();
         askingByMust();
         cheating();
         cheatingByEnds();
@@ -189,6 +190,23 @@ public final class FittingTest {
         DUE.is("x", game.ask(10), -16);
         DUE.is("x", game.left(10), -6);
         DUE.refusals(game, 0, 0, 0, 0, 0, 14, 0);
+    }
+
+    private static void askingOfSteps() {
+        WhatGame game = new WhatGame();
+        Due.line(game, 0, 0, 1);
+        Due.line(game, 1, 2, 0);
+        Due.game(game, "a", -1, 1);
+        Due.state(game, 0, "..a");
+        // By 1: step 0, and that with take or must; with end none the other side would be stuck.
+        DUE.is("by none", game.sure(32, 1), 0);
+        Due.state(game, 0, ".a");
+        DUE.is("to the first point, by all", game.sure(16, 1), 1);
+        Due.state(game, 0, ".aa");
+        DUE.is("by one of seven", game.sure(32, 2), 2);
+        rivals(game, 2, 1, 129, 257, 3, 5, 65, 385);
+        DUE.is("ask", game.ask(2), 16 * 2);
+        DUE.is("left", game.left(2), 6);
     }
 
     private static void askingByMust() {

@@ -76,6 +76,9 @@ public final class GamesTest {
         DUE.is("start", game.game(0, 2, 2, 0), -6);
         game.set(0, 11, -1);
         DUE.is("start", game.game(0, 2, 2, 0), -6);
+        game.set(0, 11, 0);
+        game.set(0, 0, 3);
+        DUE.is("start", game.game(0, 2, 2, 0), -6);
         for (int move : new int[] {-1, 0, 12, 15, 17, 187, 192, 193, 239, 252, 255, 256, 257, Integer.MIN_VALUE}) {
             DUE.is("no move " + move, withMove(move).game(0, 2, 2, 0), -6);
             DUE.is("behind n it is none", withMove(move).game(0, 2, 1, 0), 0);

@@ -564,19 +564,11 @@ final class PlainGame {
         int faulty = 0;
         for (Game game : games) {
             for (int k = 0; k < game.moves.size(); k++) {
-                faulty += isFaulty(game, k, code) ? 1 : 0;
+                faulty += lawful(ahead(game, k, code), code).contains(game.moves.get(k)) ? 0 : 1;
             }
             faulty += wentOutSo(game, code) ? 0 : 1;
         }
         return faulty;
-    }
-
-    static boolean ENDED = Boolean.getBoolean("ended");
-    private boolean isFaulty(Game game, int k, int code) {
-        if (ENDED) {
-            for (int j = 0; j <= k; j++) if (winner(ahead(game, j, code), code) != NONE) return true;
-        }
-        return !lawful(ahead(game, k, code), code).contains(game.moves.get(k));
     }
 
     int cheat(int price, int what) {

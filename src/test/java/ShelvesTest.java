@@ -126,6 +126,9 @@ public final class ShelvesTest {
         game.show(1, 0);
         DUE.is("none", game.element(0, 2), 0);
         DUE.is("none", game.element(0, -1), 0);
+        game.row(3, 0, 60);
+        DUE.is("none behind the longest", game.element(3, 60), 0);
+        DUE.is("none", game.element(3, Integer.MAX_VALUE), 0);
         DUE.is("a rule", game.element(1, 0), 0);
         DUE.is("nothing", game.element(2, 0), 0);
         DUE.is("no shelf", game.element(8, 0), 0);

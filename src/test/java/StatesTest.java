@@ -19,6 +19,7 @@ public final class StatesTest {
         puts();
         musts();
         ends();
+        stuck();
         plays();
         takes();
         values();
@@ -155,6 +156,34 @@ public final class StatesTest {
         DUE.is("refused", game.status(11), 3);
     }
 
+    /** Ends none, by each KIND alone, wherever the pieces are. */
+    private static void stuck() {
+        for (int kind = 0; kind < 3; kind++) {
+            for (int p = 0; p < 12; p++) {
+                WhatGame game = new WhatGame();
+                int q = (p + 5) % 12;
+                int over = (p + 3) % 12;
+                Due.line(game, kind, p, over, q);
+                game.point(p, 1);
+                for (int other = 0; other < 3; other++) {
+                    int due = other == kind ? -1 : 1;
+                    DUE.is("a step of kind " + other, game.over(END_NONE + (1 << other)), due);
+                    DUE.is("a jump over nothing", game.over(END_NONE + (8 << other)), 1);
+                }
+                game.point(over, 2);
+                for (int other = 0; other < 3; other++) {
+                    int due = other == kind ? -1 : 1;
+                    DUE.is("no step of kind " + other, game.over(END_NONE + (1 << other)), 1);
+                    DUE.is("a jump of kind " + other, game.over(END_NONE + (8 << other)), due);
+                    DUE.is("must of kind " + other, game.moves(PUT + MUST + (8 << other)), due == -1 ? 1 : 10);
+                }
+                let("a jump", game, 8 << kind, 16 * p + q);
+                game.point(q, 1);
+                DUE.is("full behind", game.over(END_NONE + (8 << kind)), 1);
+            }
+        }
+    }
+
     private static void plays() {
         WhatGame game = new WhatGame();
         Due.line(game, 0, 0, 1, 2, 3);
@@ -171,12 +200,20 @@ public final class StatesTest {
         DUE.is("no code ahead of wrong", game.play(0, 999), -1);
         DUE.is("no code", game.play(4096, 1), -1);
         DUE.is("not lawful", game.play(STEP, 48 + 2), -6);
+        game.turn(0);
+        DUE.is("to the other side's", game.play(STEP, 16 * 3 + 2), -6);
+        DUE.is("put to a piece", game.play(PUT, 240), -6);
+        DUE.is("put to a piece", game.play(PUT, 243), -6);
+        game.point(2, 1);
+        DUE.is("to its own", game.play(STEP, 16 * 3 + 2), -6);
+        game.point(2, 2);
+        game.turn(1);
         DUE.is("not lawful: over", game.play(STEP + END_3, 1), -6);
         for (int move : new int[] {-1, 0, 12, 17, 192, 239, 252, 255, 256, 257, Integer.MAX_VALUE, Integer.MIN_VALUE}) {
             DUE.is("no move " + move, game.play(STEP + PUT, move), -6);
         }
         stands("as it was", game, 1, "b.ba");
-        DUE.refusals(game, 2, 0, 0, 0, 0, 15, 0);
+        DUE.refusals(game, 2, 0, 0, 0, 0, 19, 0);
     }
 
     private static void stands(String call, WhatGame game, int turn, String points) {
@@ -233,6 +270,7 @@ public final class StatesTest {
         Due.state(game, 0, "....a");
         DUE.is("no move, no end", game.value(code, 3), 0);
         DUE.is("no move", game.value(code + END_NONE, 0), -1);
+        DUE.is("end none alone", game.value(END_NONE, 0), -1);
         Due.state(game, 1, "a..b");
         DUE.is("won in three", game.value(code, 3), 1);
         DUE.is("not in two", game.value(code, 2), 0);
@@ -257,6 +295,10 @@ public final class StatesTest {
         DUE.is("not into the jump", game.best(code, 2), 16);
         Due.state(game, 0, "a.b");
         DUE.is("the only one", game.best(code, 2), 1);
+        game.tie(0, 6, 0, true);
+        DUE.is("into the jump", game.best(code, 1), 1);
+        DUE.is("out of the jump's way", game.best(code, 2), 6);
+        game.tie(0, 6, 0, false);
         Due.state(game, 1, "a...b");
         game.point(3, 0);
         DUE.is("none but one", game.best(code, 3), 67);
