@@ -65,12 +65,12 @@ public final class ComparedTest {
         int points = 3 + random.nextInt(10);
         board(points);
         int code = code();
-        for (int i = 0; i < 4 && log.size() < CALLS - 60; i++) {
+        for (int i = 0; i < 4 && log.size() < CALLS - 200; i++) {
             if (random.nextInt(3) > 0) writeGame(points, code);
             for (int j = random.nextInt(8); j >= 0; j--) anything(points, code);
         }
         for (int i = random.nextInt(4); i > 0 && log.size() < CALLS - 200; i--) rule();
-        while (log.size() < CALLS - 8) {
+        while (log.size() < CALLS - 64) {
             anything(points, code);
             if (random.nextInt(40) == 0) rule();
         }
@@ -207,8 +207,7 @@ public final class ComparedTest {
             }
             case 7 -> call("move", asked, near(0, 9));
             case 8 -> {
-                int move = plain.move(asked, 0);
-                program.move(asked, 0);
+                int move = (int) call("move", asked, 0);
                 call("play", asked, move);
             }
             case 9 -> call("play", asked, someMove());
