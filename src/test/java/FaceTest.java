@@ -77,6 +77,10 @@ public final class FaceTest {
                 else DUE.is(field.getName() + " final", isFinal(field), 1);
             }
             DUE.is(one.getName() + " has few fields", own <= 20 ? 1 : 0, 1);
+            for (Method method : one.getDeclaredMethods()) {
+                boolean isFace = (" " + FACE).contains(" " + method.getName() + "(");
+                DUE.is(one.getName() + " has a method named " + method.getName(), isFace ? 1 : 0, 0);
+            }
             for (Constructor<?> made : one.getDeclaredConstructors()) {
                 DUE.is(one.getName() + " takes few", made.getParameterCount() <= 7 ? 1 : 0, 1);
             }

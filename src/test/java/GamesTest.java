@@ -151,6 +151,15 @@ public final class GamesTest {
         after("put without put", "ab", 242, 1, "aba");
         after("a jump without jumps takes none", "ab", 2, 1 + 128, ".ba");
         after("a jump behind the end takes none", "ab", 2, 8 + 128 + 2048, ".ba");
+        after("the other side's over its own takes none", "bb", 2, 8 + 128, ".bb");
+        after("over, to the other side's, takes none", "abb", 2, 8 + 128, ".ba");
+        after("over, to its own, takes none", "aba", 2, 8 + 128, ".ba");
+        after("from nothing over, takes none", ".b", 2, 8 + 128, ".b");
+        after("from nothing over, to a piece", ".ba", 2, 8 + 128, ".b");
+        after("over its own takes none", "aa", 2, 8 + 128, ".aa");
+        after("a put where a jump must be", "ab", 245, 8 + 64 + 128 + 256, "ab...a");
+        after("a put behind the end", "ab", 245, 64 + 2048, "ab...a");
+        after("a step behind the end", "a.b", 1, 1 + 2048, ".ab");
         after("a jump takes", "ab", 2, 8 + 128 + 1024, "..a");
         after("a step where a jump must be", "ab.a", 16 * 3 + 4, 1 + 8 + 128 + 256, "ab..a");
     }

@@ -10,7 +10,8 @@ public final class SizesFittingTest {
     public static void main(String[] args) {
         withoutGames();
         inOrder();
-        oneCode();
+        overAtOnce();
+        theOnlyOne();
         dearLeast();
         tightByNine();
         surely();
@@ -75,8 +76,8 @@ public final class SizesFittingTest {
         DUE.is("no more", game.rival(9, i), -5);
     }
 
-    /** Promises 25 to 34: GAMES that few CODES FIT, of one LEAST alone. */
-    private static void oneCode() {
+    /** Promises 25 to 34: a GAME that is OVER at once, and another that isn't. */
+    private static void overAtOnce() {
         WhatGame game = new WhatGame();
         Due.game(game, "", 1);
         for (int x = 0; x < 10; x++) DUE.is("the first by " + x, game.rival(x, 0), 512);
@@ -91,6 +92,40 @@ public final class SizesFittingTest {
             DUE.is("no first by " + x, game.rival(x, 0), -5);
             DUE.is("no ask by " + x, game.ask(x), -1);
             DUE.is("none left by " + x, game.left(x), 0);
+        }
+    }
+
+    /** Promises 25 to 35: GAMES that one CODE alone FITS; all its PARTS are needed, and none more may be. */
+    private static void theOnlyOne() {
+        WhatGame game = new WhatGame();
+        Due.line(game, 0, 0, 1, 2, 0);
+        Due.line(game, 0, 3, 4);
+        Due.line(game, 1, 7, 5, 11);
+        Due.line(game, 1, 7, 10);
+        Due.line(game, 2, 8, 6, 10);
+        Due.line(game, 2, 8, 11);
+        int code = 1 + 8 + 128 + 256 + 512 + 2048;
+        // A jump that is a step too, and takes; by two pieces; to the POINT of the one that was taken.
+        Due.game(game, "ab.b.ba", -1, 2, 16 * 3 + 4, 16 * 2 + 1);
+        // One piece that has steps: OVER by end 2 alone.
+        Due.game(game, "a..b.b", 1);
+        // Three pieces that have all but a step 0 and a jump 0: OVER by end none alone.
+        Due.game(game, ".....bbaaa", 1);
+        DUE.is("fits", game.fits(), 1);
+        DUE.is("find", game.find(), code);
+        DUE.is("tight", game.tight(), code);
+        DUE.is("cheat, too cheap", game.cheat(9, 0) > 0 ? 1 : 0, 1);
+        DUE.is("cheat", game.cheat(10, 0), 0);
+        DUE.is("cheat", game.cheat(25, 1), code);
+        Due.state(game, 0, "a.....a");
+        for (int x = 0; x < 10; x++) {
+            DUE.is("one by " + x, game.rivals(x), 1);
+            DUE.is("it", game.rival(x, 0), code);
+            DUE.is("no second", game.rival(x, 1), -5);
+            DUE.is("by all", game.sure(1, x), 1);
+            DUE.is("by none", game.sure(240, x), 0);
+            DUE.is("none by some alone", game.ask(x), -1);
+            DUE.is("none left", game.left(x), 0);
         }
     }
 
